@@ -67,6 +67,11 @@ final class Check {
         }
     }
 
+    /** Whether answers were looked at, and all of them were as due. */
+    boolean allAreDue() {
+        return made > 0 && wrong == 0;
+    }
+
     void end() {
         System.out.println(title + ": " + wrong + " of " + made + " answers are not as due");
         if (wrong != 0) {
