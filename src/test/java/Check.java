@@ -20,6 +20,14 @@ final class Check {
         due(call, got ? 1 : 0, want ? 1 : 0);
     }
 
+    void due(String call, String got, String want) {
+        made++;
+        if (!got.equals(want)) {
+            wrong++;
+            System.out.println(title + ": " + call + " answered " + got + ", due is " + want);
+        }
+    }
+
     /** Types a text, all of which the pad must take, and makes it a cell's formula. */
     void define(NoteSheet x, int cell, String text) {
         due("define(" + cell + ") of " + text, typed(x, cell, text), 0);
