@@ -16,7 +16,7 @@ import java.util.regex.Pattern;
 import javax.tools.JavaCompiler;
 import javax.tools.ToolProvider;
 
-/** The Java that README.md shows compiles as it stands there, and its calls give the answers told behind them. */
+/** The Java that README.md shows compiles, and its calls give the answers told behind them. */
 public final class ReadmeTest {
     // A call on its own, and behind // its answer, alone or with ": " and words on it.
     private static final Pattern SHOWN =
